@@ -81,7 +81,8 @@ public final class ModelTest {
                         () -> room.splice(a, i, b, j, n), () -> model.splice(a, i, b, j, n));
                 told[Math.max(0, -model.count(6))]++;
             }
-            case 20, 21, 22 -> compare(7, where, "step " + a + " " + i + " " + b + " " + j + " " + n,
+            case 20, 21, 22 -> compare(7, where,
+                    "step " + a + " " + i + " " + b + " " + j + " " + n,
                     () -> room.step(a, i, b, j, n), () -> model.step(a, i, b, j, n));
             case 23, 24 -> compare(8, where, "play " + yes,
                     () -> room.play(yes), () -> model.play(yes));

@@ -441,6 +441,11 @@ public final class PromisesTest {
         due.is("play of 24", 24, full.play(false));
         due.is("cuts of 24", 24, full.count(0));
         frames("play of 24", full, 0, 1, 1, 1, 1, 1, 1);
+        SpliceRoom none = twoReelsOfMarks();
+        none.step(0, 6, 1, 6, 0);
+        none.step(0, 0, 1, 0, 1);
+        due.is("a step of no frames goes well", 2, none.play(false));
+        due.is("and so backwards", 2, none.play(true));
         SpliceRoom blunt = blunt();
         due.failsAndChangesNothing("blunt", STATE, blunt, () -> blunt.play(false));
         due.fails("blunt, backwards", STATE, () -> blunt.play(true));
