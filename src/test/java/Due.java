@@ -45,6 +45,10 @@ final class Due {
         }
     }
 
+    boolean allRight() {
+        return wrong == 0;
+    }
+
     void end(String name) {
         System.out.println(name + ": " + (wrong == 0 ? "as due" : wrong + " not as due"));
         if (wrong != 0) {

@@ -14,11 +14,14 @@ public final class ModelTest {
 
     public static void main(String[] args) {
         ModelTest t = new ModelTest();
-        for (int run = 0; run < RUNS; run++) {
+        // One wrong run tells enough: behind its first wrong answer the two rooms drift apart.
+        for (int run = 0; run < RUNS && t.due.allRight(); run++) {
             t.seed = run;
             t.compareRun(run);
         }
-        t.checkReach();
+        if (t.due.allRight()) {
+            t.checkReach();
+        }
         t.due.end("ModelTest");
     }
 
