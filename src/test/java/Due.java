@@ -5,6 +5,12 @@ final class Due {
     }
 
     private int wrong = 0;
+    private String sentence = "";
+
+    /** What comes next tests this sentence of the document: a wrong answer is told with it. */
+    void sentence(String words) {
+        sentence = "\"" + words + "\": ";
+    }
 
     void is(String call, long want, long got) {
         if (got != want) {
@@ -37,6 +43,19 @@ final class Due {
         same("the room behind " + call, before, View.of(room));
     }
 
+    void frames(String where, SpliceRoom room, int hook, long... want) {
+        is(where + ": frames on hook " + hook, want.length, room.look(hook, 1));
+        for (int i = 0; i < want.length; i++) {
+            is(where + ": frame(" + hook + ", " + i + ")", want[i], room.frame(hook, i));
+        }
+    }
+
+    void counts(String where, SpliceRoom room, int... want) {
+        for (int what = 0; what < want.length; what++) {
+            is(where + ": count(" + what + ")", want[what], room.count(what));
+        }
+    }
+
     static Object answerOf(Call c) {
         try {
             return c.answer();
@@ -58,6 +77,6 @@ final class Due {
 
     private void tell(String what) {
         wrong++;
-        System.out.println(what);
+        System.out.println(sentence + what);
     }
 }

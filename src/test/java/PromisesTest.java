@@ -38,47 +38,6 @@ public final class PromisesTest {
         t.due.end("PromisesTest");
     }
 
-    /** Hook k holds a reel of kind k with four frames, for all six kinds. */
-    private static SpliceRoom oneOfEach() {
-        SpliceRoom room = new SpliceRoom();
-        for (int kind = 0; kind < 6; kind++) {
-            room.wind(kind, kind, 4);
-        }
-        return room;
-    }
-
-    /** Hook 0 holds marks 1 .. 6, hook 1 marks of 0. */
-    private static SpliceRoom twoReelsOfMarks() {
-        SpliceRoom room = new SpliceRoom();
-        room.wind(0, 1, 6);
-        room.wind(1, 1, 6);
-        for (int i = 0; i < 6; i++) {
-            room.mark(0, i, i + 1);
-        }
-        return room;
-    }
-
-    private static SpliceRoom blunt() {
-        SpliceRoom room = twoReelsOfMarks();
-        for (int i = 0; i < 3; i++) {
-            room.splice(0, 0, 5, 0, 1);
-        }
-        return room;
-    }
-
-    private void frames(String where, SpliceRoom room, int hook, long... want) {
-        due.is(where + ": frames on hook " + hook, want.length, room.look(hook, 1));
-        for (int i = 0; i < want.length; i++) {
-            due.is(where + ": frame(" + hook + ", " + i + ")", want[i], room.frame(hook, i));
-        }
-    }
-
-    private void counts(String where, SpliceRoom room, int... want) {
-        for (int what = 0; what < want.length; what++) {
-            due.is(where + ": count(" + what + ")", want[what], room.count(what));
-        }
-    }
-
     private void newObject() {
         SpliceRoom room = new SpliceRoom();
         for (int hook = 0; hook < 6; hook++) {
@@ -87,7 +46,7 @@ public final class PromisesTest {
             due.is("new: look 2", 0, room.look(hook, 2));
             due.is("new: sum", 7, room.sum(hook));
         }
-        counts("new", room, 0, 0, 0, 0, 0, 0, 0, 0);
+        due.counts("new", room, 0, 0, 0, 0, 0, 0, 0, 0);
         due.is("new: play", 0, room.play(false));
         due.is("new: sweep", 0, room.sweep());
         due.fails("new: grind", STATE, room::grind);
@@ -102,10 +61,10 @@ public final class PromisesTest {
             due.is("wind of kind " + kind, kind, room.wind(kind, kind, 2));
             due.is("kind behind wind", kind, room.look(kind, 0));
         }
-        frames("wind", room, 1, 0, 0);
-        frames("wind", room, 2, 0, 0);
-        frames("wind", room, 3, -1, -1);
-        frames("wind", room, 4, -1, -1);
+        due.frames("wind", room, 1, 0, 0);
+        due.frames("wind", room, 2, 0, 0);
+        due.frames("wind", room, 3, -1, -1);
+        due.frames("wind", room, 4, -1, -1);
         due.is("wind of 0 frames", 3, room.wind(0, 3, 0));
         due.is("0 frames", 0, room.look(0, 1));
         due.is("wind of 40 frames", 4, room.wind(0, 4, 40));
@@ -140,7 +99,7 @@ public final class PromisesTest {
     }
 
     private void hang() {
-        SpliceRoom room = oneOfEach();
+        SpliceRoom room = Rooms.oneOfEach();
         for (int kind = 1; kind < 6; kind++) {
             due.is("hang of kind " + kind, kind, room.hang(0, kind));
             due.is("holders behind hang", 2, room.look(kind, 2));
@@ -161,7 +120,7 @@ public final class PromisesTest {
     }
 
     private void twin() {
-        SpliceRoom room = oneOfEach();
+        SpliceRoom room = Rooms.oneOfEach();
         room.mark(1, 1, -3);
         room.mark(2, 1, Long.MIN_VALUE);
         room.paste(3, 1, 5, false);
@@ -194,17 +153,17 @@ public final class PromisesTest {
     }
 
     private void mark() {
-        SpliceRoom room = oneOfEach();
+        SpliceRoom room = Rooms.oneOfEach();
         room.mark(1, 0, 0x1_0000_0005L);
         room.mark(1, 1, 0x8000_0000L);
         room.mark(1, 2, -1);
         room.mark(1, 3, Long.MIN_VALUE + 7);
-        frames("mark", room, 1, 5, MIN, -1, 7);
+        due.frames("mark", room, 1, 5, MIN, -1, 7);
         room.mark(2, 0, 0x1_0000_0005L);
         room.mark(2, 1, 0x8000_0000L);
         room.mark(2, 2, Long.MIN_VALUE);
         room.mark(2, 3, Long.MAX_VALUE);
-        frames("mark", room, 2, 0x1_0000_0005L, 0x8000_0000L, Long.MIN_VALUE, Long.MAX_VALUE);
+        due.frames("mark", room, 2, 0x1_0000_0005L, 0x8000_0000L, Long.MIN_VALUE, Long.MAX_VALUE);
         for (int hook : NO_HOOKS) {
             due.fails("mark, no hook", ARG, () -> marked(room, hook, -1));
         }
@@ -225,18 +184,18 @@ public final class PromisesTest {
     }
 
     private void paste() {
-        SpliceRoom room = oneOfEach();
+        SpliceRoom room = Rooms.oneOfEach();
         due.is("plain card", true, room.paste(3, 0, 0, false));
         due.is("sealed card", true, room.paste(3, 1, 0, true));
         due.is("last plain card", true, room.paste(3, 2, 999, false));
         due.is("last sealed card", true, room.paste(3, 3, 999, true));
-        frames("paste", room, 3, 0, 1000, 999, 1999);
+        due.frames("paste", room, 3, 0, 1000, 999, 1999);
         due.is("over another card", true, room.paste(3, 0, 8, true));
         due.is("frame behind that", 1008, room.frame(3, 0));
         due.is("sealed in seals", true, room.paste(4, 0, 0, true));
         due.is("plain over sealed in seals", false, room.paste(4, 0, 5, false));
         due.is("plain over empty in seals", false, room.paste(4, 1, 999, false));
-        frames("paste", room, 4, 1000, -1, -1, -1);
+        due.frames("paste", room, 4, 1000, -1, -1, -1);
         for (int hook : NO_HOOKS) {
             due.fails("paste, no hook", ARG, () -> room.paste(hook, -1, 1, true));
         }
@@ -255,17 +214,17 @@ public final class PromisesTest {
     }
 
     private void pull() {
-        SpliceRoom room = oneOfEach();
+        SpliceRoom room = Rooms.oneOfEach();
         room.paste(3, 0, 0, false);
         room.paste(3, 1, 2, true);
         room.paste(4, 3, 0, true);
         due.is("plain card", true, room.pull(3, 0));
         due.is("the same frame again", false, room.pull(3, 0));
         due.is("an empty frame", false, room.pull(3, 3));
-        frames("pull", room, 3, -1, 1002, -1, -1);
+        due.frames("pull", room, 3, -1, 1002, -1, -1);
         due.is("sealed card", true, room.pull(4, 3));
         due.is("an empty frame of seals", false, room.pull(4, 3));
-        frames("pull", room, 4, -1, -1, -1, -1);
+        due.frames("pull", room, 4, -1, -1, -1, -1);
         for (int hook : NO_HOOKS) {
             due.fails("pull, no hook", ARG, () -> room.pull(hook, -1));
         }
@@ -280,13 +239,13 @@ public final class PromisesTest {
     }
 
     private void spliceGoesWell() {
-        SpliceRoom room = twoReelsOfMarks();
+        SpliceRoom room = Rooms.twoReelsOfMarks();
         due.is("splice of marks", 3, room.splice(0, 1, 1, 3, 3));
-        frames("splice", room, 1, 0, 0, 0, 2, 3, 4);
-        frames("splice", room, 0, 1, 2, 3, 4, 5, 6);
-        counts("splice", room, 1, 3, 0, 0, 0, 3, 3, 0);
+        due.frames("splice", room, 1, 0, 0, 0, 2, 3, 4);
+        due.frames("splice", room, 0, 1, 2, 3, 4, 5, 6);
+        due.counts("splice", room, 1, 3, 0, 0, 0, 3, 3, 0);
         due.is("splice of none at both ends", 0, room.splice(0, 6, 1, 6, 0));
-        counts("splice of none", room, 2, 3, 0, 0, 0, 0, 0, 0);
+        due.counts("splice of none", room, 2, 3, 0, 0, 0, 0, 0, 0);
         due.is("splice of all", 6, room.splice(0, 0, 1, 0, 6));
         due.is("sum behind that", room.sum(0), room.sum(1));
         room.mark(0, 0, 99);
@@ -295,7 +254,7 @@ public final class PromisesTest {
         room.wind(3, 2, 3);
         room.mark(2, 1, Long.MAX_VALUE);
         due.is("splice of hours", 1, room.splice(2, 1, 3, 2, 1));
-        frames("splice", room, 3, 0, 0, Long.MAX_VALUE);
+        due.frames("splice", room, 3, 0, 0, Long.MAX_VALUE);
         room.wind(4, 3, 0);
         room.wind(5, 4, 0);
         due.is("splice of reels without frames", 0, room.splice(4, 0, 5, 0, 0));
@@ -303,20 +262,20 @@ public final class PromisesTest {
     }
 
     private void spliceWithinOneReel() {
-        SpliceRoom room = twoReelsOfMarks();
+        SpliceRoom room = Rooms.twoReelsOfMarks();
         due.is("to the right", 4, room.splice(0, 0, 0, 2, 4));
-        frames("to the right", room, 0, 1, 2, 1, 2, 3, 4);
+        due.frames("to the right", room, 0, 1, 2, 1, 2, 3, 4);
         due.is("to the left", 5, room.splice(0, 1, 0, 0, 5));
-        frames("to the left", room, 0, 2, 1, 2, 3, 4, 4);
+        due.frames("to the left", room, 0, 2, 1, 2, 3, 4, 4);
         room.hang(2, 0);
         due.is("by another hook", 5, room.splice(2, 0, 0, 1, 5));
-        frames("by another hook", room, 0, 2, 2, 1, 2, 3, 4);
+        due.frames("by another hook", room, 0, 2, 2, 1, 2, 3, 4);
         due.is("onto itself", 6, room.splice(0, 0, 2, 0, 6));
-        frames("onto itself", room, 0, 2, 2, 1, 2, 3, 4);
+        due.frames("onto itself", room, 0, 2, 2, 1, 2, 3, 4);
         room.wind(3, 4, 3);
         room.paste(3, 0, 1, true);
         due.is("within seals", 2, room.splice(3, 0, 3, 1, 2));
-        frames("within seals", room, 3, 1001, 1001, -1);
+        due.frames("within seals", room, 3, 1001, 1001, -1);
     }
 
     private void jams(String where, SpliceRoom room, int want, int[] cut) {
@@ -329,7 +288,7 @@ public final class PromisesTest {
     }
 
     private void spliceJamsByNothingAndUnlike() {
-        SpliceRoom room = oneOfEach();
+        SpliceRoom room = Rooms.oneOfEach();
         String before = View.of(room).split(" counts")[0];
         for (int from = 0; from < 6; from++) {
             for (int to = 0; to < 6; to++) {
@@ -344,7 +303,7 @@ public final class PromisesTest {
     }
 
     private void spliceJamsBeyondTheEnd() {
-        SpliceRoom room = twoReelsOfMarks();
+        SpliceRoom room = Rooms.twoReelsOfMarks();
         room.wind(1, 1, 3);
         int[][] cuts = {
             {0, -1, 1, 0, 1}, {0, 0, 1, -1, 1}, {0, 0, 1, 0, -1}, {0, 6, 1, 3, -1},
@@ -357,30 +316,21 @@ public final class PromisesTest {
         for (int[] cut : cuts) {
             jams("cut beyond the end", room, -3, cut);
         }
-        frames("beyond the end", room, 0, 1, 2, 3, 4, 5, 6);
-        frames("beyond the end", room, 1, 0, 0, 0);
+        due.frames("beyond the end", room, 0, 1, 2, 3, 4, 5, 6);
+        due.frames("beyond the end", room, 1, 0, 0, 0);
         due.is("jams", cuts.length, room.count(2));
     }
 
     private void spliceJamsByPlainCards() {
-        SpliceRoom room = new SpliceRoom();
-        room.wind(0, 3, 5);
-        room.wind(1, 4, 5);
-        room.paste(0, 0, 1, true);
-        room.paste(0, 2, 0, true);
-        room.paste(0, 3, 999, false);
-        room.paste(0, 4, 5, true);
-        for (int i = 0; i < 5; i++) {
-            room.paste(1, i, 70 + i, true);
-        }
+        SpliceRoom room = Rooms.cardsAndSeals();
         due.is("a plain card to seals", -4, room.splice(0, 0, 1, 0, 5));
-        frames("those ahead are laid", room, 1, 1001, -1, 1000, 1073, 1074);
-        counts("those ahead are laid", room, 0, 3, 1, 1, 0, 3, -4, 0);
+        due.frames("those ahead are laid", room, 1, 1001, -1, 1000, 1073, 1074);
+        due.counts("those ahead are laid", room, 0, 3, 1, 1, 0, 3, -4, 0);
         due.is("ahead of the plain card", 3, room.splice(0, 0, 1, 2, 3));
-        frames("ahead of the plain card", room, 1, 1001, -1, 1001, -1, 1000);
-        counts("ahead of the plain card", room, 1, 6, 1, 0, 0, 3, 3, 0);
+        due.frames("ahead of the plain card", room, 1, 1001, -1, 1001, -1, 1000);
+        due.counts("ahead of the plain card", room, 1, 6, 1, 0, 0, 3, 3, 0);
         due.is("the plain card first", -4, room.splice(0, 3, 1, 0, 2));
-        counts("the plain card first", room, 1, 6, 2, 1, 0, 0, -4, 0);
+        due.counts("the plain card first", room, 1, 6, 2, 1, 0, 0, -4, 0);
         due.is("beyond the end goes first", -3, room.splice(0, 3, 1, 0, 3));
         due.is("none of it", 0, room.splice(0, 3, 1, 0, 0));
         due.is("behind the plain card", 1, room.splice(0, 4, 1, 0, 1));
@@ -389,25 +339,25 @@ public final class PromisesTest {
         room.wind(2, 3, 2);
         room.paste(2, 0, 0, false);
         due.is("plain to cards", 2, room.splice(2, 0, 0, 3, 2));
-        frames("plain to cards", room, 0, 1005, -1, 1001, 0, -1);
+        due.frames("plain to cards", room, 0, 1005, -1, 1001, 0, -1);
         due.is("number 0 is a card", -4, room.splice(0, 3, 1, 0, 1));
     }
 
     private void spliceThrows() {
-        SpliceRoom room = blunt();
+        SpliceRoom room = Rooms.blunt();
         for (int hook : NO_HOOKS) {
             due.fails("splice, no hook", ARG, () -> room.splice(hook, 0, 0, 0, 0));
             due.fails("splice, no other", ARG, () -> room.splice(0, 0, hook, 0, 0));
         }
         due.failsAndChangesNothing("blunt", STATE, room, () -> room.splice(0, 0, 1, 0, 1));
         due.fails("blunt, and it would jam", STATE, () -> room.splice(5, 0, 1, 0, 1));
-        SpliceRoom sharp = twoReelsOfMarks();
+        SpliceRoom sharp = Rooms.twoReelsOfMarks();
         due.failsAndChangesNothing("splice(0, .. 6, ..)", ARG, sharp,
                 () -> sharp.splice(0, 0, 6, 0, 1));
     }
 
     private void step() {
-        SpliceRoom room = blunt();
+        SpliceRoom room = Rooms.blunt();
         for (int k = 1; k <= 24; k++) {
             due.is("step", k, room.step(5, MIN, 0, MAX, -k));
             due.is("steps", k, room.count(4));
@@ -420,49 +370,49 @@ public final class PromisesTest {
         room.sweep();
         due.failsAndChangesNothing("step(6, ..)", ARG, room, () -> room.step(6, 0, 0, 0, 0));
         due.is("step behind sweep", 1, room.step(0, 0, 1, 0, 1));
-        counts("steps cut nothing", room, 0, 0, 3, 3, 1, 0, -1, 0);
+        due.counts("steps cut nothing", room, 0, 0, 3, 3, 1, 0, -1, 0);
     }
 
     private void playForwards() {
-        SpliceRoom room = twoReelsOfMarks();
+        SpliceRoom room = Rooms.twoReelsOfMarks();
         room.step(0, 0, 1, 0, 2);
         room.step(1, 0, 1, 2, 2);
         room.step(1, 3, 0, 4, 2);
         due.is("play", 3, room.play(false));
-        frames("play", room, 1, 1, 2, 1, 2, 0, 0);
-        frames("play", room, 0, 1, 2, 3, 4, 2, 0);
-        counts("play", room, 3, 6, 0, 0, 3, 2, 2, 0);
+        due.frames("play", room, 1, 1, 2, 1, 2, 0, 0);
+        due.frames("play", room, 0, 1, 2, 3, 4, 2, 0);
+        due.counts("play", room, 3, 6, 0, 0, 3, 2, 2, 0);
         due.is("the sheet is still there", 3, room.play(false));
-        counts("play again", room, 6, 12, 0, 0, 3, 2, 2, 0);
-        SpliceRoom full = twoReelsOfMarks();
+        due.counts("play again", room, 6, 12, 0, 0, 3, 2, 2, 0);
+        SpliceRoom full = Rooms.twoReelsOfMarks();
         for (int k = 0; k < 24; k++) {
             full.step(0, 0, 0, 1, 5);
         }
         due.is("play of 24", 24, full.play(false));
         due.is("cuts of 24", 24, full.count(0));
-        frames("play of 24", full, 0, 1, 1, 1, 1, 1, 1);
-        SpliceRoom none = twoReelsOfMarks();
+        due.frames("play of 24", full, 0, 1, 1, 1, 1, 1, 1);
+        SpliceRoom none = Rooms.twoReelsOfMarks();
         none.step(0, 6, 1, 6, 0);
         none.step(0, 0, 1, 0, 1);
         due.is("a step of no frames goes well", 2, none.play(false));
         due.is("and so backwards", 2, none.play(true));
-        SpliceRoom blunt = blunt();
+        SpliceRoom blunt = Rooms.blunt();
         due.failsAndChangesNothing("blunt", STATE, blunt, () -> blunt.play(false));
         due.fails("blunt, backwards", STATE, () -> blunt.play(true));
     }
 
     private void playBackwards() {
-        SpliceRoom room = twoReelsOfMarks();
+        SpliceRoom room = Rooms.twoReelsOfMarks();
         room.wind(2, 1, 6);
         room.step(2, 4, 1, 1, 2);
         room.step(1, 0, 0, 2, 3);
         due.is("backwards", 2, room.play(true));
-        frames("backwards", room, 1, 3, 4, 5, 0, 0, 0);
-        frames("backwards", room, 2, 0, 0, 0, 0, 4, 5);
-        frames("backwards", room, 0, 1, 2, 3, 4, 5, 6);
-        counts("backwards", room, 2, 5, 0, 0, 2, 2, 2, 0);
+        due.frames("backwards", room, 1, 3, 4, 5, 0, 0, 0);
+        due.frames("backwards", room, 2, 0, 0, 0, 0, 4, 5);
+        due.frames("backwards", room, 0, 1, 2, 3, 4, 5, 6);
+        due.counts("backwards", room, 2, 5, 0, 0, 2, 2, 2, 0);
         due.is("forwards", 2, room.play(false));
-        frames("forwards", room, 0, 1, 2, 3, 4, 5, 6);
+        due.frames("forwards", room, 0, 1, 2, 3, 4, 5, 6);
         SpliceRoom seals = new SpliceRoom();
         seals.wind(0, 4, 2);
         seals.wind(1, 3, 2);
@@ -470,21 +420,21 @@ public final class PromisesTest {
         seals.step(0, 0, 1, 0, 1);
         seals.step(0, 0, 1, 0, 2);
         due.is("a plain card, backwards", 0, seals.play(true));
-        counts("a plain card, backwards", seals, 0, 1, 1, 1, 2, 1, -4, 0);
+        due.counts("a plain card, backwards", seals, 0, 1, 1, 1, 2, 1, -4, 0);
         due.is("seals to cards, forwards", 2, seals.play(false));
         due.is("backwards, the plain card is gone", 2, seals.play(true));
     }
 
     private void playEndsWithAJam() {
-        SpliceRoom room = twoReelsOfMarks();
+        SpliceRoom room = Rooms.twoReelsOfMarks();
         room.step(0, 0, 1, 0, 1);
         room.step(0, 0, 1, 6, 1);
         room.step(0, 0, 1, 5, 1);
         due.is("forwards", 1, room.play(false));
-        counts("forwards", room, 1, 1, 1, 1, 3, 0, -3, 0);
-        frames("forwards", room, 1, 1, 0, 0, 0, 0, 0);
+        due.counts("forwards", room, 1, 1, 1, 1, 3, 0, -3, 0);
+        due.frames("forwards", room, 1, 1, 0, 0, 0, 0, 0);
         due.is("backwards", 1, room.play(true));
-        counts("backwards", room, 2, 2, 2, 1, 3, 0, -3, 0);
+        due.counts("backwards", room, 2, 2, 2, 1, 3, 0, -3, 0);
         room.splice(0, 0, 5, 0, 1);
         due.is("two jams in a row", 2, room.count(3));
         due.is("a step that goes well ends the row", 1, room.play(false));
@@ -499,7 +449,7 @@ public final class PromisesTest {
         due.fails("blunt, an empty sheet", STATE, () -> room.play(false));
         room.grind();
         due.is("an empty sheet", 0, room.play(true));
-        counts("an empty sheet changes nothing", room, 3, 3, 6, 0, 0, 0, -1, 1);
+        due.counts("an empty sheet changes nothing", room, 3, 3, 6, 0, 0, 0, -1, 1);
     }
 
     private void playFindsWhatHangsThere() {
@@ -514,7 +464,7 @@ public final class PromisesTest {
     }
 
     private void sweep() {
-        SpliceRoom room = twoReelsOfMarks();
+        SpliceRoom room = Rooms.twoReelsOfMarks();
         due.is("sweep of none", 0, room.sweep());
         room.step(0, 0, 1, 0, 1);
         room.step(0, 0, 1, 1, 1);
@@ -522,14 +472,14 @@ public final class PromisesTest {
         due.is("steps behind sweep", 0, room.count(4));
         due.is("sweep again", 0, room.sweep());
         due.is("play behind sweep", 0, room.play(false));
-        frames("sweep", room, 1, 0, 0, 0, 0, 0, 0);
-        SpliceRoom blunt = blunt();
+        due.frames("sweep", room, 1, 0, 0, 0, 0, 0, 0);
+        SpliceRoom blunt = Rooms.blunt();
         blunt.step(0, 0, 0, 0, 0);
         due.is("sweep with a blunt knife", 1, blunt.sweep());
     }
 
     private void grind() {
-        SpliceRoom room = twoReelsOfMarks();
+        SpliceRoom room = Rooms.twoReelsOfMarks();
         for (int times = 1; times <= 3; times++) {
             room.splice(0, 0, 5, 0, 1);
             due.failsAndChangesNothing("one jam", STATE, room, room::grind);
@@ -550,7 +500,7 @@ public final class PromisesTest {
     }
 
     private void frame() {
-        SpliceRoom room = oneOfEach();
+        SpliceRoom room = Rooms.oneOfEach();
         room.mark(1, 3, -2);
         room.mark(2, 0, 1L << 40);
         room.paste(3, 0, 12, false);
@@ -578,7 +528,7 @@ public final class PromisesTest {
     }
 
     private void look() {
-        SpliceRoom room = oneOfEach();
+        SpliceRoom room = Rooms.oneOfEach();
         for (int kind = 0; kind < 6; kind++) {
             due.is("look 0", kind, room.look(kind, 0));
             due.is("look 1", kind == 0 || kind == 5 ? -1 : 4, room.look(kind, 1));
@@ -603,7 +553,7 @@ public final class PromisesTest {
     }
 
     private void sum() {
-        SpliceRoom room = oneOfEach();
+        SpliceRoom room = Rooms.oneOfEach();
         due.is("of nothing", 7, room.sum(0));
         due.is("of a core", 7, room.sum(5));
         room.wind(0, 2, 0);
@@ -626,18 +576,18 @@ public final class PromisesTest {
     }
 
     private void count() {
-        SpliceRoom room = twoReelsOfMarks();
+        SpliceRoom room = Rooms.twoReelsOfMarks();
         room.splice(0, 0, 1, 0, 4);
         room.splice(0, 0, 1, 0, 2);
-        counts("two cuts", room, 2, 6, 0, 0, 0, 2, 2, 0);
+        due.counts("two cuts", room, 2, 6, 0, 0, 0, 2, 2, 0);
         room.splice(0, 0, 1, 0, 7);
         room.step(0, 0, 1, 0, 1);
-        counts("a jam", room, 2, 6, 1, 1, 1, 0, -3, 0);
+        due.counts("a jam", room, 2, 6, 1, 1, 1, 0, -3, 0);
         room.splice(0, 0, 4, 0, 1);
         room.splice(4, 0, 0, 0, 1);
-        counts("blunt", room, 2, 6, 3, 3, 1, 0, -1, 0);
+        due.counts("blunt", room, 2, 6, 3, 3, 1, 0, -1, 0);
         room.grind();
-        counts("ground", room, 2, 6, 3, 0, 1, 0, -1, 1);
+        due.counts("ground", room, 2, 6, 3, 0, 1, 0, -1, 1);
         for (int what : new int[] {-1, 8, MIN, MAX}) {
             due.fails("count, no what", ARG, () -> room.count(what));
         }
